@@ -10,7 +10,7 @@ public final class MindsByTen {
     private static final int FIRST_HANDS = 2, MOST_HANDS = 4, FIRST_TEN = 60, LATEST_TEN = 200;
     private static final int MOST_UNDONE = 10, IMAGES = 2, MOST_CLAIMS = 6, LAWS = 3;
 
-    /** Where she is ahead of her first way; it stands behind the seats, so that ways from it need no case of their own. */
+    /** Where she is ahead of her first way; it has a place behind the seats', so that ways from it are no case apart. */
     private static final int DOOR = MOST_SEATS;
     /** Where a thing is that is with her. */
     private static final int HER = MOST_SEATS;
@@ -499,24 +499,20 @@ public final class MindsByTen {
                 if (fault >= 0 || kind == END) {
                     break;
                 }
-                tellItem(into);
+                switch (kind) {
+                    case 's': tellSeat(into); break;
+                    case 't': tellThing(into); break;
+                    case 'h': tellHands(into); break;
+                    case 'e': tellTen(into); break;
+                    default: refuse();
+                }
+                step();
+                if (kind != ';') {
+                    refuse();
+                }
                 items++;
             }
             return items;
-        }
-
-        private void tellItem(Hall into) {
-            switch (kind) {
-                case 's': tellSeat(into); break;
-                case 't': tellThing(into); break;
-                case 'h': tellHands(into); break;
-                case 'e': tellTen(into); break;
-                default: refuse();
-            }
-            step();
-            if (kind != ';') {
-                refuse();
-            }
         }
 
         private void tellSeat(Hall into) {
