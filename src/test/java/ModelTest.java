@@ -138,6 +138,9 @@ public final class ModelTest {
         }
 
         private void call(String name, int a, int b, int d) {
+            if (calls == CALLS_OF_ONE) {
+                return;
+            }
             calls++;
             c.due("call " + calls + ", " + name + "(" + a + ", " + b + ", " + d + ")", answer(name, a, b, d),
                 model.call(name, a, b, d));

@@ -323,23 +323,17 @@ public final class PromisesTest {
         c.due("same place", x.goes(2), 0);
         c.due("where", x.now(1), 2);
         c.due("undoable", x.now(5), 3);
-        toMinute(x, 982);
+        Checks.toMinute(x, 982);
         c.due("beyond", x.goes(0), STATE);
         c.due("still there", x.now(1), 2);
-        toMinute(x, 999);
+        Checks.toMinute(x, 999);
         c.due("beyond 999", x.goes(0), STATE);
         c.due("no minutes at 999", x.goes(1), 0);
         MindsByTen y = Checks.in("s9 9;s0 0;");
-        toMinute(y, 981);
+        Checks.toMinute(y, 981);
         c.due("up to 999", y.goes(0), 18);
         c.due("999", y.now(0), 999);
         c.due("nobody there", new MindsByTen().goes(0), BAD);
-    }
-
-    private static void toMinute(MindsByTen x, int minute) {
-        while (x.now(0) < minute) {
-            x.encores(Math.min(30, minute - x.now(0)));
-        }
     }
 
     private static void takes() {
@@ -365,7 +359,7 @@ public final class PromisesTest {
         c.due("left elsewhere", x.takes(0), 2);
         MindsByTen y = Checks.in("s1 0;s0 1;t0 1 0 1;t0 2 1 2;");
         y.goes(0);
-        toMinute(y, 998);
+        Checks.toMinute(y, 998);
         c.due("at 998", y.takes(0), 1);
         c.due("at 999", y.takes(1), STATE);
         c.due("not read", y.thing(1, 5), 0);
@@ -401,7 +395,7 @@ public final class PromisesTest {
         c.due("minute", x.now(0), 7);
         c.due("undoable", x.now(5), 6);
         c.due("hands are free", x.takes(0), 1);
-        toMinute(x, 999);
+        Checks.toMinute(x, 999);
         c.due("at 999", x.leaves(0), STATE);
         c.due("still with her", x.thing(0, 4), NONE);
     }
@@ -417,7 +411,7 @@ public final class PromisesTest {
         c.due("one", x.encores(1), 1);
         c.due("thirty", x.encores(30), 31);
         c.due("undoable", x.now(5), 2);
-        toMinute(x, 969);
+        Checks.toMinute(x, 969);
         c.due("beyond", x.encores(31), BAD);
         c.due("up to 999", x.encores(30), 999);
         c.due("beyond 999", x.encores(1), STATE);
@@ -491,7 +485,7 @@ public final class PromisesTest {
         c.due("leave, take, go, leave both", x.back(0), 7);
         c.due("leave first", x.back(1), 21);
         c.due("nothing is changed", x.now(0), 9);
-        toMinute(x, 999);
+        Checks.toMinute(x, 999);
         c.due("minute 999 does not matter", x.back(0), 7);
         c.due("nor for the step", x.back(1), 21);
         MindsByTen y = Checks.in("s0 0;s9 0;t0 1 0 1;t0 1 0 1;t0 1 0 1;t0 1 0 1;h1;");
@@ -555,7 +549,7 @@ public final class PromisesTest {
         c.due("less back", x.left(), 5);
         x.goes(1);
         c.due("too late", x.left(), 10 - 7 - 4);
-        toMinute(x, 999);
+        Checks.toMinute(x, 999);
         c.due("far too late", x.left(), 10 - 999 - 4);
     }
 
@@ -610,7 +604,7 @@ public final class PromisesTest {
         x.leaves(0);
         c.due("all back, one read", x.seenBy(1), 0);
         c.due("from now", x.seenBy(2), 2);
-        toMinute(x, 999);
+        Checks.toMinute(x, 999);
         c.due("minute 999 does not matter", x.seenBy(2), 2);
         MindsByTen y = Checks.in("s1 1;t0 1 0 1;t0 1 0 1;");
         c.due("as many as there are", y.seenBy(2), 6);

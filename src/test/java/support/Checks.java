@@ -22,6 +22,16 @@ final class Checks {
         due(what, holds ? 1 : 0, 1);
     }
 
+    void same(String what, String got, String want) {
+        done++;
+        if (!got.equals(want)) {
+            wrong++;
+            if (wrong <= 50) {
+                System.out.println(about + ": " + what + "\n  got " + got + "\n  due " + want);
+            }
+        }
+    }
+
     int wrong() {
         return wrong;
     }
@@ -36,6 +46,15 @@ final class Checks {
     static void tell(MindsByTen x, String text) {
         for (int i = 0; i < text.length(); i++) {
             x.type(text.charAt(i));
+        }
+    }
+
+    /** Encores, up to a minute. */
+    static void toMinute(MindsByTen x, int minute) {
+        int at = x.now(0);
+        while (at < minute) {
+            at = x.encores(Math.min(30, minute - at));
+            if (at < 0) throw new IllegalStateException("no such minute: " + minute);
         }
     }
 
