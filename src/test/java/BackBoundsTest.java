@@ -1,7 +1,6 @@
 /** The bounds that the document names for the ways back and what can be read (part 3, promises 13 to 17), a sentence each. */
 public final class BackBoundsTest {
     private static final int BAD = -1, STATE = -2, NONE = -9;
-    private static final int[] FAR_OFF = {Integer.MIN_VALUE, -256, -10, -9, 11, 32, 256, Integer.MAX_VALUE};
     /** A row of seats: 1 at 3, 0 at 5, 2 at 7. */
     private static final String ROW = "s5 0;s3 0;s7 0;";
 
@@ -34,6 +33,7 @@ public final class BackBoundsTest {
         seenByAsManyAsThereAre();
         seenByThoseThatAre();
         seenByHands();
+        seenFromTheDoor();
         numbersOfOdds();
         oddsOfNone();
         oddsAtTheEnds();
@@ -46,7 +46,7 @@ public final class BackBoundsTest {
         MindsByTen x = Checks.in(ROW + "t0 0 0 1;");
         c.due("below", x.back(-1), BAD);
         c.due("above", x.back(2), BAD);
-        for (int n : FAR_OFF) c.due("far off", x.back(n), BAD);
+        for (int n : Checks.FAR_OFF) c.due("far off", x.back(n), BAD);
         c.due("lowest", x.back(0), 0);
         c.due("highest", x.back(1), NONE);
     }
@@ -448,7 +448,7 @@ public final class BackBoundsTest {
             MindsByTen x = Checks.in("s1 0;" + "t0 0 0 1;".repeat(things));
             c.due("below", x.seenBy(-1), BAD);
             c.due("above", x.seenBy(5), BAD);
-            for (int n : FAR_OFF) c.due("far off", x.seenBy(n), BAD);
+            for (int n : Checks.FAR_OFF) c.due("far off", x.seenBy(n), BAD);
         }
         c.due("no seats", new MindsByTen().seenBy(5), BAD);
         c.due("no seats", new MindsByTen().seenBy(-1), BAD);
@@ -494,6 +494,23 @@ public final class BackBoundsTest {
         }
     }
 
+    private static void seenFromTheDoor() {
+        c.about("SEEN BY, SEE from the DOOR: whichever SEAT is the first");
+        for (int first = 0; first < 4; first++) {
+            StringBuilder text = new StringBuilder();
+            for (int s = 0; s < 4; s++) text.append(s == first ? "s2 1;" : "s9 " + (5 + s) + ";");
+            for (int s = 0; s < 4; s++) text.append("t").append(s).append(" 0 0 1;");
+            for (int ten = 4; ten <= 5; ten++) {
+                MindsByTen x = Checks.in(text + "e" + ten + ";");
+                c.due("back", x.back(0), 0);
+                c.due("nearest: seat " + first, x.seenBy(1), 3 + 2);
+                c.due("by " + ten, x.see(), ten == 5 ? 1 : 0);
+                int second = first == 0 ? 1 : 0;
+                c.due("two", x.seenBy(2), 3 + 2 + 7 + 4 + second + 2);
+            }
+        }
+    }
+
     /** An object with so many strays of four things, she with hands full of them. */
     private static MindsByTen astray(int strays) {
         MindsByTen x = Checks.in("s0 0;s1 0;" + "t0 0 0 1;".repeat(4) + "h4;");
@@ -522,7 +539,7 @@ public final class BackBoundsTest {
         }
         c.due("below", x.odds(5, 1, -1), BAD);
         c.due("above", x.odds(5, 1, 2), BAD);
-        for (int n : FAR_OFF) {
+        for (int n : Checks.FAR_OFF) {
             c.due("far off", x.odds(n, 1, 0), BAD);
             c.due("far off", x.odds(5, n, 0), BAD);
             c.due("far off", x.odds(5, 1, n), BAD);

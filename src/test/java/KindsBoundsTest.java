@@ -1,7 +1,6 @@
 /** The bounds that the document names for kinds, images, counts and the trace (part 4, promises 24 to 28). */
 public final class KindsBoundsTest {
     private static final int BAD = -1, STATE = -2, NONE = -9, NO = -1000000;
-    private static final int[] FAR_OFF = {Integer.MIN_VALUE, -1000000, -256, -10, -9, 32, 256, Integer.MAX_VALUE};
     private static final int[] ADDED = {1, 11, 101, 1011, 10101, 100001};
 
     private static final Checks c = new Checks();
@@ -46,7 +45,7 @@ public final class KindsBoundsTest {
                     c.due("trace", x.trace(), trace);
                 }
             }
-            for (int n : FAR_OFF) {
+            for (int n : Checks.FAR_OFF) {
                 c.due("far off", x.rate(n, 0), NO);
                 c.due("far off", x.rate(0, n), NO);
             }
@@ -123,47 +122,28 @@ public final class KindsBoundsTest {
 
     private static void ratesChangeNothingElse() {
         c.about("rate: THE TRACE alone changes");
-        MindsByTen x = played();
+        MindsByTen x = Checks.played();
         for (int kind = 0; kind < 6; kind++) x.rate(kind, 1);
-        MindsByTen twin = played();
+        MindsByTen twin = Checks.played();
         c.due("trace", x.trace() - twin.trace(), 111226);
-        c.same("nothing else", withoutTrace(Probe.whole(x)), withoutTrace(Probe.whole(twin)));
-    }
-
-    private static String withoutTrace(String probe) {
-        return probe.replaceAll("trace-?[0-9]+", "");
-    }
-
-    private static MindsByTen played() {
-        MindsByTen x = Checks.in("s2 0;s5 0;s5 4;t0 3 0 1;t1 5 1 2;t2 24 3 4;h3;e40;");
-        x.goes(0);
-        x.takes(0);
-        x.keep(0);
-        x.goes(1);
-        x.leaves(0);
-        x.takes(1);
-        x.felt(2);
-        x.tells(0, 1, 0);
-        x.rate(3, 0);
-        Checks.tell(x, "s1 ");
-        return x;
+        c.same("nothing else", Probe.withoutTrace(Probe.whole(x)), Probe.withoutTrace(Probe.whole(twin)));
     }
 
     private static void numbersOfImages() {
         c.about("IMAGES 0, 1: BAD");
-        MindsByTen x = played();
+        MindsByTen x = Checks.played();
         for (int image : new int[] {-1, 2, 3}) {
             c.due("keep", x.keep(image), BAD);
             c.due("again", x.again(image), BAD);
         }
-        for (int image : FAR_OFF) {
+        for (int image : Checks.FAR_OFF) {
             c.due("keep, far off", x.keep(image), BAD);
             c.due("again, far off", x.again(image), BAD);
         }
-        c.due("keep 0", x.keep(0), 8);
-        c.due("keep 1", x.keep(1), 8);
-        c.due("again 1", x.again(1), 8);
-        c.due("again 0", x.again(0), 8);
+        c.due("keep 0", x.keep(0), 15);
+        c.due("keep 1", x.keep(1), 15);
+        c.due("again 1", x.again(1), 15);
+        c.due("again 0", x.again(0), 15);
     }
 
     private static void noneKept() {
@@ -283,11 +263,11 @@ public final class KindsBoundsTest {
 
     private static void keepChangesNothing() {
         c.about("keep: NOW stays, what can be UNDONE stays");
-        MindsByTen x = played();
+        MindsByTen x = Checks.played();
         String before = Probe.seen(x);
         x.keep(1);
         c.same("as it was", Probe.seen(x), before);
-        c.due("undo", x.undo(), 4);
+        c.due("undo", x.undo(), 5);
     }
 
     private static void againMoreThanOnce() {
@@ -322,10 +302,10 @@ public final class KindsBoundsTest {
 
     private static void numbersOfCount() {
         c.about("count: BAD");
-        for (MindsByTen x : new MindsByTen[] {new MindsByTen(), played()}) {
+        for (MindsByTen x : new MindsByTen[] {new MindsByTen(), Checks.played()}) {
             c.due("below", x.count(-1), BAD);
             c.due("above", x.count(7), BAD);
-            for (int n : FAR_OFF) c.due("far off", x.count(n), BAD);
+            for (int n : Checks.FAR_OFF) c.due("far off", x.count(n), BAD);
         }
     }
 
@@ -365,7 +345,7 @@ public final class KindsBoundsTest {
 
     private static void traceGoesOn() {
         c.about("THE TRACE goes on (hall(), undo(), again(), other calls)");
-        MindsByTen x = played();
+        MindsByTen x = Checks.played();
         long trace = x.trace();
         c.due("one curate", trace, 1011);
         x.undo();

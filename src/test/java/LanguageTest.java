@@ -27,6 +27,8 @@ public final class LanguageTest {
     private static final String[] FORBIDDEN = {"throw", "throws", "try", "catch", "synchronized", "assert", "->", "::",
         "@Override", "System.out", "System.nano", "System.current", "Random", "Thread", "package", "toString", "hashCode",
         "var", "Exact", "Object", "protected", "finalize"};
+    private static final Set<String> LIBRARY = Set.of("Math.min", "Math.max", "Math.abs", "Integer.bitCount",
+        "Long.bitCount", "Arrays.fill", "System.arraycopy");
     private static final int MOST_ELEMENTS = 25000, MOST_OBJECTS = 200;
 
     private static final Checks c = new Checks();
@@ -101,6 +103,11 @@ public final class LanguageTest {
         Matcher imports = Pattern.compile("import ([\\w.*]+);").matcher(code);
         while (imports.find()) {
             c.holds("import " + imports.group(1), imports.group(1).equals("java.util.Arrays"));
+        }
+        Matcher calls = Pattern.compile("\\b(Math|Integer|Long|Arrays|System|String|List)\\.(\\w+)").matcher(code);
+        while (calls.find()) {
+            String call = calls.group(1) + "." + calls.group(2);
+            c.holds(call + " is of the library that stands in rule 4", LIBRARY.contains(call));
         }
         lengths(code.split("\n"));
     }

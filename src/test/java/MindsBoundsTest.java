@@ -1,7 +1,6 @@
 /** The bounds that the document names for what she knows, whose things are, and laws (part 3, promises 18 to 23). */
 public final class MindsBoundsTest {
     private static final int BAD = -1, FULL = -3, NONE = -9;
-    private static final int[] FAR_OFF = {Integer.MIN_VALUE, -256, -10, -9, 32, 256, Integer.MAX_VALUE};
 
     private static final Checks c = new Checks();
 
@@ -57,7 +56,7 @@ public final class MindsBoundsTest {
         for (MindsByTen x : new MindsByTen[] {new MindsByTen(), read("0 1", "1 2")}) {
             c.due("below", x.knows(-1), BAD);
             c.due("above", x.knows(3), BAD);
-            for (int n : FAR_OFF) c.due("far off", x.knows(n), BAD);
+            for (int n : Checks.FAR_OFF) c.due("far off", x.knows(n), BAD);
         }
     }
 
@@ -139,7 +138,7 @@ public final class MindsBoundsTest {
         for (int marks = 0; marks <= 31; marks++) c.due("marks", new MindsByTen().felt(marks), 1);
         MindsByTen x = new MindsByTen();
         for (int marks : new int[] {-1, 32, 33, 63}) c.due("marks " + marks, x.felt(marks), BAD);
-        for (int n : FAR_OFF) c.due("far off", x.felt(n), BAD);
+        for (int n : Checks.FAR_OFF) c.due("far off", x.felt(n), BAD);
         c.due("nothing is felt", x.count(4), 0);
         c.due("nothing to ask for", x.whose(0), BAD);
     }
@@ -221,7 +220,7 @@ public final class MindsBoundsTest {
             for (int i = -2; i <= 7; i++) {
                 c.holds(i + " of " + felt, (x.whose(i) == BAD) != (i >= -1 && i < felt));
             }
-            for (int n : FAR_OFF) c.due("far off", x.whose(n), BAD);
+            for (int n : Checks.FAR_OFF) c.due("far off", x.whose(n), BAD);
             x.felt(0);
         }
     }
@@ -287,7 +286,7 @@ public final class MindsBoundsTest {
             }
         }
         MindsByTen x = Checks.in("s0 0;s1 0;t0 0 0 1;");
-        for (int n : FAR_OFF) {
+        for (int n : Checks.FAR_OFF) {
             c.due("far off", x.tells(n, 0, 1), BAD);
             c.due("far off", x.tells(0, n, 1), BAD);
             c.due("far off", x.tells(0, 0, n), BAD);

@@ -2,7 +2,6 @@
 public final class StepsBoundsTest {
     private static final int BAD = -1, STATE = -2, NONE = -9;
     private static final String CORNERS = "s0 0;s9 0;s0 9;s9 9;";
-    private static final int[] FAR_OFF = {Integer.MIN_VALUE, -256, -10, -9, 32, 256, Integer.MAX_VALUE};
 
     private static final Checks c = new Checks();
 
@@ -51,7 +50,7 @@ public final class StepsBoundsTest {
                 c.due("below", x.seat(s, -1), BAD);
                 c.due("above", x.seat(s, 4), BAD);
             }
-            for (int n : FAR_OFF) {
+            for (int n : Checks.FAR_OFF) {
                 c.due("far off", x.seat(n, 0), BAD);
                 c.due("far off", x.seat(0, n), BAD);
             }
@@ -69,7 +68,7 @@ public final class StepsBoundsTest {
                 c.due("below", x.thing(t, -1), BAD);
                 c.due("above", x.thing(t, 6), BAD);
             }
-            for (int n : FAR_OFF) {
+            for (int n : Checks.FAR_OFF) {
                 c.due("far off", x.thing(n, 1), BAD);
                 c.due("far off", x.thing(0, n), BAD);
             }
@@ -83,7 +82,7 @@ public final class StepsBoundsTest {
         c.due("highest", x.now(5), 0);
         c.due("below", x.now(-1), BAD);
         c.due("above", x.now(6), BAD);
-        for (int n : FAR_OFF) c.due("far off", x.now(n), BAD);
+        for (int n : Checks.FAR_OFF) c.due("far off", x.now(n), BAD);
     }
 
     private static void seatsIn() {
@@ -162,7 +161,7 @@ public final class StepsBoundsTest {
             c.due("where", x.now(1), s);
         }
         for (int n : new int[] {-1, 4}) c.due("no such seat", x.goes(n), BAD);
-        for (int n : FAR_OFF) c.due("far off", x.goes(n), BAD);
+        for (int n : Checks.FAR_OFF) c.due("far off", x.goes(n), BAD);
         c.due("one seat alone", Checks.in("s1 1;").goes(1), BAD);
     }
 
@@ -221,7 +220,7 @@ public final class StepsBoundsTest {
             c.due("1 minute alone", x.now(0), minute + 1);
         }
         for (int n : new int[] {-1, 4}) c.due("no such thing", x.takes(n), BAD);
-        for (int n : FAR_OFF) c.due("far off", x.takes(n), BAD);
+        for (int n : Checks.FAR_OFF) c.due("far off", x.takes(n), BAD);
     }
 
     private static void takenAtTheDoor() {
@@ -314,7 +313,7 @@ public final class StepsBoundsTest {
             c.due("1 minute alone", x.now(0), minute + 1);
         }
         for (int n : new int[] {-1, 4}) c.due("no such thing", x.leaves(n), BAD);
-        for (int n : FAR_OFF) c.due("far off", x.leaves(n), BAD);
+        for (int n : Checks.FAR_OFF) c.due("far off", x.leaves(n), BAD);
     }
 
     private static void leftAtTheDoor() {
@@ -362,7 +361,7 @@ public final class StepsBoundsTest {
         }
         MindsByTen x = Checks.in(CORNERS);
         for (int n : new int[] {0, -1, -30, 31}) c.due("n " + n, x.encores(n), BAD);
-        for (int n : FAR_OFF) c.due("n " + n, x.encores(n), BAD);
+        for (int n : Checks.FAR_OFF) c.due("n " + n, x.encores(n), BAD);
         c.due("no minute went by", x.now(0), 0);
         c.due("where she is stays", x.now(1), NONE);
     }

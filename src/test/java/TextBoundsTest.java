@@ -35,7 +35,7 @@ public final class TextBoundsTest {
         endsTooEarly();
         firstFault();
         faultChangesNothing();
-        fiveTold();
+        refusedTextsAreForgotten();
         readAnew();
         readAnewTraces();
         c.end();
@@ -147,12 +147,12 @@ public final class TextBoundsTest {
     private static void clearing() {
         c.about("clear: THE TEXT is empty");
         for (int letters : new int[] {0, 1, 149, 150}) {
-            MindsByTen x = played();
+            MindsByTen x = Checks.played();
             x.clear();
             Checks.tell(x, "s".repeat(letters));
             c.due("had " + letters, x.clear(), letters);
             c.due("has none", x.clear(), 0);
-            MindsByTen twin = played();
+            MindsByTen twin = Checks.played();
             twin.clear();
             c.same("nothing else changes", Probe.whole(x), Probe.whole(twin));
         }
@@ -470,8 +470,8 @@ public final class TextBoundsTest {
         c.about("-10 less FAULT: nothing changes (THE TEXT stays, too)");
         String[] wrong = {"s1 1;s2 2;s", "x", "s9 9;s8 8;t1 31 4 5;h1;e3;;", "s5 5;t0 0 3 3;", "e5;h4;e", "h1;h2;"};
         for (String text : wrong) {
-            MindsByTen x = played();
-            MindsByTen twin = played();
+            MindsByTen x = Checks.played();
+            MindsByTen twin = Checks.played();
             x.clear();
             twin.clear();
             Checks.tell(x, text);
@@ -488,7 +488,7 @@ public final class TextBoundsTest {
         c.due("y", x.seat(0, 1), 4);
     }
 
-    private static void fiveTold() {
+    private static void refusedTextsAreForgotten() {
         c.about("hall: a refused text leaves no trace in the next one");
         MindsByTen x = new MindsByTen();
         String[] texts = {"s1 1;s2 2;s3 3;s4 4;s", "s0 0;t0 1 0 1;t0 1 0 1;t0 1 0 1;t0 1 0 1;t", "h4;h", "e9;e"};
@@ -503,37 +503,17 @@ public final class TextBoundsTest {
         c.same("alone", Probe.whole(x), Probe.whole(Checks.in("s6 7;t0 1 0 1;")));
     }
 
-    /** An object of which everything is used: steps, images, felt, told, the trace, a begun text. */
-    private static MindsByTen played() {
-        MindsByTen x = Checks.in("s2 0;s5 0;s5 4;t0 3 0 1;t1 5 1 2;t2 24 3 4;h3;e40;");
-        x.goes(0);
-        x.takes(0);
-        x.keep(0);
-        x.goes(1);
-        x.leaves(0);
-        x.takes(1);
-        x.keep(1);
-        x.encores(7);
-        x.felt(2);
-        x.felt(24);
-        x.tells(0, 1, 0);
-        x.tells(1, 0, 1);
-        x.rate(3, 0);
-        Checks.tell(x, "s1 ");
-        return x;
-    }
-
     private static void readAnew() {
         c.about("Read anew: as told, HANDS 2, TEN 60, MINUTE 0, nothing FELT, TOLD, no IMAGES, nothing UNDONE");
         String[] texts = {"", "s1 1;", WHOLE, "h1;", "e1;", "s2 0;s5 0;s5 4;t0 3 0 1;t1 5 1 2;t2 24 3 4;"};
         for (String text : texts) {
-            MindsByTen x = played();
+            MindsByTen x = Checks.played();
             x.clear();
             Checks.tell(x, text);
             long trace = x.trace();
             x.hall();
             c.due("the trace goes on", x.trace(), trace);
-            c.same("anew '" + text + "'", withoutTrace(Probe.whole(x)), withoutTrace(Probe.whole(Checks.in(text))));
+            c.same("anew '" + text + "'", Probe.withoutTrace(Probe.whole(x)), Probe.withoutTrace(Probe.whole(Checks.in(text))));
         }
         MindsByTen x = Checks.in(WHOLE);
         Checks.tell(x, "s1 1;");
@@ -542,10 +522,6 @@ public final class TextBoundsTest {
         c.due("ten not told", x.count(3), 60);
         c.due("seats are not added", x.count(0), 1);
         c.due("things are gone", x.count(1), 0);
-    }
-
-    private static String withoutTrace(String probe) {
-        return probe.replaceAll("trace-?[0-9]+", "");
     }
 
     private static void readAnewTraces() {

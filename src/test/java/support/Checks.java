@@ -1,5 +1,8 @@
 /** Counts and prints answers that are not as due; types whole texts. */
 final class Checks {
+    /** Numbers that no call takes, but type() its blank: BAD, NO. */
+    static final int[] FAR_OFF = {Integer.MIN_VALUE, -1000000, -256, -10, -9, 32, 256, Integer.MAX_VALUE};
+
     private int wrong = 0;
     private int done = 0;
     private String about = "";
@@ -65,6 +68,26 @@ final class Checks {
         if (x.hall() < 0) {
             throw new IllegalStateException("a text with a fault: " + text);
         }
+        return x;
+    }
+
+    /** An object of which everything is used: steps, images, felt, told, the trace, a begun text. */
+    static MindsByTen played() {
+        MindsByTen x = in("s2 0;s5 0;s5 4;t0 3 0 1;t1 5 1 2;t2 24 3 4;h3;e40;");
+        x.goes(0);
+        x.takes(0);
+        x.keep(0);
+        x.goes(1);
+        x.leaves(0);
+        x.takes(1);
+        x.keep(1);
+        x.encores(7);
+        x.felt(2);
+        x.felt(24);
+        x.tells(0, 1, 0);
+        x.tells(1, 0, 1);
+        x.rate(3, 0);
+        tell(x, "s1 ");
         return x;
     }
 

@@ -53,6 +53,10 @@ final class Probe {
         return b.toString();
     }
 
+    static String withoutTrace(String probe) {
+        return probe.replaceAll("trace-?[0-9]+", "");
+    }
+
     /** NOW alone: the minute, where she is, where things are, what is read, how many may be undone. */
     static String now(MindsByTen x) {
         StringBuilder b = new StringBuilder();
